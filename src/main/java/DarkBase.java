@@ -896,7 +896,7 @@ public final class DarkBase {
         /** What all LOADS take in a TICK, but those whose bits are off. */
         int taken(int off) {
             int all = 0;
-            for (int i = 0; i < loads(); i++) {
+            for (int i = 0; i < loadPower.size(); i++) {
                 if ((off & (1 << i)) == 0) {
                     all += loadPower.at(i);
                 }
@@ -906,7 +906,7 @@ public final class DarkBase {
 
         int harmOf(int off) {
             int all = 0;
-            for (int i = 0; i < loads(); i++) {
+            for (int i = 0; i < loadHarm.size(); i++) {
                 if ((off & (1 << i)) != 0) {
                     all += loadHarm.at(i);
                 }

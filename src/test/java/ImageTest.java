@@ -5,6 +5,7 @@ public final class ImageTest {
         allIsBack();
         notWhatAnImageLeavesOut();
         againAndAgain();
+        cargo();
         count();
         Due.end();
     }
@@ -158,6 +159,25 @@ public final class ImageTest {
         spoil(b);
         b.back();
         same("the newer one", all(b), newer);
+    }
+
+    private static void cargo() {
+        DarkBase b = new DarkBase();
+        b.rule(4, 0);
+        b.machine(1, 7);
+        b.cell(7, 2);
+        b.put(7, 1, 9);
+        Due.order(b, 0, 0, "scoop");
+        b.run(1);
+        b.keep();
+        b.cell(7, 0);
+        Due.order(b, 0, 0, "drop scoop");
+        b.run(2);
+        Due.is("dust", b.has(0, 5), 0);
+        b.back();
+        Due.is("ice again", b.has(0, 5), 1);
+        Due.is("no dust", b.kilos(1), 0);
+        Due.is("kilos", b.kilos(5), 460);
     }
 
     private static void count() {

@@ -219,8 +219,12 @@ public final class PlainTest {
             program(some(0, 5), random.nextInt(2) == 0 ? broken() : text(in(20, 96)));
         } else if (dice < 92) {
             ofNights();
-        } else {
+        } else if (dice < 98) {
             ofSheets();
+        } else if (random.nextInt(2) == 0) {
+            same("keep", base.keep(), plain.keep());
+        } else {
+            same("back", base.back(), plain.back());
         }
     }
 

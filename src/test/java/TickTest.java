@@ -7,6 +7,7 @@ public final class TickTest {
         ties();
         stayingAndGivingUp();
         scooping();
+        oneKilo();
         dropping();
         fusing();
         chargingAtTheBase();
@@ -229,6 +230,27 @@ public final class TickTest {
         b.run(1);
         Due.is("with 3", b.has(0, 4), 8);
         Due.is("all of it", b.has(0, 2), 0);
+    }
+
+    /** One kilo is enough to be the other, to be dropped, and to cost what five cost. */
+    private static void oneKilo() {
+        DarkBase b = dark();
+        b.machine(1, 7);
+        b.put(7, 0, 1);
+        b.put(7, 1, 8);
+        Due.order(b, 0, 0, "scoop scoop wait scoop drop");
+        b.run(1);
+        Due.is("one", b.has(0, 4), 1);
+        Due.is("of dust", b.has(0, 5), 0);
+        Due.is("three all the same", b.has(0, 2), 47);
+        b.run(1);
+        Due.is("none is there", b.has(0, 2), 47);
+        b.cell(7, 2);
+        b.run(2);
+        Due.is("no ice onto it", b.told(7, 2), 8);
+        b.run(1);
+        Due.is("dropped", b.told(7, 1), 1);
+        Due.is("for one", b.has(0, 2), 46);
     }
 
     private static void dropping() {
