@@ -7,7 +7,7 @@ import java.util.Comparator;
 import java.util.List;
 import java.util.Random;
 
-/** No call throws or fails to end, for any arguments in any state. */
+/** No call throws or fails to end, for any arguments in any state; 512 calls at most on each object. */
 public final class AnyCallTest {
     private static final int[] EDGES = {0, 1, 2, 3, 4, 5, 6, 7, 8, 9, 10, 11, 20, 24, 25, 30, 50, 79, 80, 81, 96, 99, 100, 101, 999, 1000,
         9999, 10000, 20000, 20001, -1, -2, -100, Integer.MAX_VALUE, Integer.MIN_VALUE, Integer.MAX_VALUE - 1, 1 << 30, 1 << 16, 32768};
@@ -24,10 +24,10 @@ public final class AnyCallTest {
         calls.sort(Comparator.comparing(Method::getName));
         Due.is("calls", calls.size(), 38);
         Random random = new Random(7);
-        for (int run = 0; run < 300; run++) {
+        for (int run = 0; run < 1500; run++) {
             DarkBase base = new DarkBase();
-            for (int n = 0; n < 2000; n++) {
-                if (n % 60 == 0) {
+            for (int n = 0; n < 400; n++) {
+                if (n % 50 == 0) {
                     Due.program(base, random.nextInt(6), TEXTS[random.nextInt(TEXTS.length)]);
                     base.send(random.nextInt(5), random.nextInt(6));
                 }

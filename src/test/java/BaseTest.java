@@ -6,7 +6,11 @@ public final class BaseTest {
         load();
         base();
         shedding();
+        leastHarmOfEach();
+        allAreShed();
         cycle();
+        cycleOfEachLength();
+        bankIsFull();
         Due.end();
     }
 
@@ -100,6 +104,84 @@ public final class BaseTest {
         b.rule(3, 10);
         b.run(1);
         Due.is("9999 at most, and then the loads", b.base(2), 9970);
+    }
+
+    /** Each LOAD in turn has the least HARM, or is the first of several that have. */
+    private static void leastHarmOfEach() {
+        for (int least = 0; least < 8; least++) {
+            for (int alike = least; alike < 8; alike++) {
+                DarkBase b = new DarkBase();
+                b.rule(3, 0);
+                b.rule(2, 39);
+                for (int i = 0; i < 8; i++) {
+                    b.load(5, i == least || i == alike ? 3 : 4 + i);
+                }
+                b.run(1);
+                Due.is("one is shed", b.base(5), 1 << least);
+                Due.is("its harm", b.base(4), 3);
+                Due.is("the others are paid", b.base(2), 4);
+            }
+        }
+    }
+
+    private static void allAreShed() {
+        DarkBase b = new DarkBase();
+        b.rule(3, 0);
+        b.rule(2, 49);
+        for (int i = 0; i < 8; i++) {
+            b.load(50, 99);
+        }
+        b.run(1);
+        Due.is("all", b.base(5), 255);
+        Due.is("all of their harm", b.base(4), 8 * 99);
+        Due.is("the bank stays", b.base(2), 49);
+        b.rule(2, 50);
+        b.run(1);
+        Due.is("all but the last", b.base(5), 127);
+        Due.is("nothing is left", b.base(2), 0);
+        b.run(1);
+        Due.is("harm is added on and on", b.base(4), 23 * 99);
+        b.rule(2, 400);
+        b.run(1);
+        Due.is("none in the latest tick", b.base(5), 0);
+        Due.is("harm stays", b.base(4), 23 * 99);
+        b = new DarkBase();
+        b.rule(2, 0);
+        b.rule(3, 0);
+        b.run(1);
+        Due.is("no loads, none shed", b.base(5), 0);
+        Due.is("no harm", b.base(4), 0);
+    }
+
+    /** TICK t is in LIGHT, if t % (LIGHT and DARK) is below LIGHT: at the edges of rules and of cycles. */
+    private static void cycleOfEachLength() {
+        int[][] rules = {{14, 14}, {1, 0}, {24, 24}, {1, 24}, {24, 0}, {1, 1}, {5, 2}};
+        for (int[] rule : rules) {
+            DarkBase b = new DarkBase();
+            b.rule(0, rule[0]);
+            b.rule(1, rule[1]);
+            b.rule(2, 0);
+            b.rule(3, 1);
+            int bank = 0;
+            for (int t = 0; t < 100; t++) {
+                int due = t % (rule[0] + rule[1]) < rule[0] ? 1 : 0;
+                Due.is("light at " + t, b.base(1), due);
+                bank += due;
+                b.run(1);
+            }
+            Due.is("panels in light alone", b.base(2), bank);
+        }
+    }
+
+    private static void bankIsFull() {
+        int[][] had = {{9998, 0}, {9998, 1}, {9998, 2}, {9999, 0}, {9999, 99}, {9900, 99}, {9901, 99}};
+        for (int[] h : had) {
+            DarkBase b = new DarkBase();
+            b.rule(2, h[0]);
+            b.rule(3, h[1]);
+            b.run(1);
+            Due.is("9999 at most", b.base(2), Math.min(9999, h[0] + h[1]));
+        }
     }
 
     private static void cycle() {

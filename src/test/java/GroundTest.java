@@ -3,14 +3,18 @@ public final class GroundTest {
     public static void main(String[] args) {
         newObject();
         ground();
+        groundOfEachSize();
         groundLeavesAllElse();
+        machinesOfANewGround();
         cell();
         put();
         told();
         isOf();
         map();
         mapOfSeveralReports();
+        mapKnowsWhatCame();
         lay();
+        layOfEdges();
         steps();
         Due.end();
     }
@@ -64,19 +68,78 @@ public final class GroundTest {
         Due.is("base's dust", b.told(0, 1), 0);
     }
 
+    /** CELLS are numbered row by row: x is the number's rest by WIDE, y the row. */
+    private static void groundOfEachSize() {
+        for (int wide = 1; wide <= 11; wide++) {
+            for (int high = 1; high <= 9; high++) {
+                DarkBase b = new DarkBase();
+                boolean can = wide >= 2 && wide <= 10 && high >= 2 && high <= 8;
+                int cells = can ? wide * high : 24;
+                Due.is("ground " + wide + " " + high, b.ground(wide, high), can ? cells : DarkBase.BAD);
+                Due.is("cells", b.count(0), cells);
+                Due.is("the last", b.told(cells - 1, 1), 20);
+                Due.is("behind the last", b.told(cells, 1), DarkBase.BAD);
+                Due.is("kilos", b.kilos(5), 20 * (cells - 1));
+                if (can) {
+                    Due.is("to the end of a row", b.steps(0, wide - 1), wide - 1);
+                    Due.is("to the next row", b.steps(0, wide), 1);
+                    Due.is("from row to row", b.steps(wide - 1, wide), wide);
+                    Due.is("to the last", b.steps(0, cells - 1), wide + high - 2);
+                    Due.is("and from it", b.steps(cells - 1, 0), wide + high - 2);
+                }
+            }
+        }
+    }
+
+    /** None of what was stays with MACHINES that come to a new GROUND, nor with its REPORTS and ORDERS. */
+    private static void machinesOfANewGround() {
+        DarkBase b = new DarkBase();
+        b.rule(4, 0);
+        b.machine(2, 7);
+        b.machine(1, 8);
+        Due.order(b, 0, 0, "while 1{scoop wait}");
+        Due.order(b, 1, 1, "scoop scoop until 0");
+        b.run(4);
+        b.tune(0, 1, 77);
+        b.tune(1, 1, 100);
+        b.rule(4, 2);
+        b.run(1);
+        b.send(0, 1);
+        Due.is("same size", b.ground(6, 4), 24);
+        Due.is("none", b.has(0, 0), DarkBase.BAD);
+        Due.is("none there", b.told(7, 3), DarkBase.NONE);
+        Due.is("none carried", b.kilos(1), 0);
+        for (int i = 0; i < 2; i++) {
+            Due.is("numbered from 0", b.machine(1, 7 + i), i);
+            int[] due = {1, 7 + i, 50, 0, 0, DarkBase.NONE, DarkBase.NONE, 0};
+            for (int what = 0; what < due.length; what++) {
+                Due.is("has " + what, b.has(i, what), due[what]);
+            }
+        }
+        b.run(3);
+        Due.is("no order comes", b.has(0, 6), DarkBase.NONE);
+        Due.is("reports of now alone", b.map(7, 3), 5);
+        b.send(0, 1);
+        b.run(3);
+        Due.is("from the first on", b.has(0, 4), 5);
+    }
+
     private static void groundLeavesAllElse() {
         DarkBase b = new DarkBase();
-        b.load(200, 1);
         b.load(50, 7);
         b.rule(2, 30);
-        b.work(1, 0, 0, 0);
+        b.rule(0, 9);
+        b.rule(1, 8);
+        b.work(1, 0, 5, 0);
+        b.sheet(1, 3);
+        b.mark(1, 2, 77);
         b.machine(2, 1);
         b.machine(2, 4);
         for (int what = 0; what < 3; what++) {
             b.store(what, 5);
         }
         Due.program(b, 3, "fuse");
-        b.tell(4);
+        b.tell(20);
         b.send(0, 3);
         b.run(4);
         b.send(0, 3);
@@ -86,6 +149,7 @@ public final class GroundTest {
         Due.is("reports", b.count(5), 6);
         Due.tape(b, "wait");
         b.keep();
+        b.rule(4, 2);
         Due.is("ground", b.ground(3, 2), 6);
         int[] count = {6, 0, 1, 1, 0, 0, 1, 1, 4};
         for (int what = 0; what < count.length; what++) {
@@ -103,6 +167,16 @@ public final class GroundTest {
             Due.is("map", b.map(cell, 3), DarkBase.NONE);
         }
         Due.is("no order", b.order(0, 0), DarkBase.NONE);
+        Due.is("light", b.rule(0, 14), 9);
+        Due.is("dark", b.rule(1, 14), 8);
+        Due.is("late", b.rule(4, 3), 2);
+        Due.is("the sheet", b.mark(1, 2, 0), 77);
+        Due.is("what waits", b.check(1, 1), 0);
+        Due.is("what is on the tape", b.program(0), 1);
+        Due.is("numbered from 0", b.machine(0, 5), 0);
+        Due.is("the program", b.send(0, 3), 7);
+        b.rule(2, 400);
+        Due.is("the work", b.planned(3, 9, 0), 0);
         Due.is("back", b.back(), 4);
         Due.is("cells are back", b.count(0), 24);
     }
@@ -222,6 +296,68 @@ public final class GroundTest {
         b.run(1);
         Due.is("at once", b.map(7, 3), 4);
         Due.is("those on their way", b.count(5), 2);
+    }
+
+    /** LATE 0 to 9: a REPORT of TICK t is known behind TICK t and LATE, and tells what was. */
+    private static void mapKnowsWhatCame() {
+        for (int late = 0; late <= 9; late++) {
+            DarkBase b = new DarkBase();
+            b.rule(4, late);
+            b.machine(0, 9);
+            b.put(9, 0, 100);
+            b.put(9, 1, 200);
+            b.cell(9, 3);
+            b.run(1);
+            b.put(9, 0, 101);
+            b.put(9, 1, 201);
+            b.cell(9, 2);
+            if (late > 0) {
+                Due.is("on its way", b.count(5), 1);
+                if (late > 1) {
+                    b.run(late - 1);
+                }
+                Due.is("not yet, with late " + late, b.map(9, 0), DarkBase.NONE);
+                b.run(1);
+            }
+            int[] due = {3, 100, 200, 0};
+            for (int what = 0; what < 4; what++) {
+                Due.is("late " + late + ", what " + what, b.map(9, what), due[what]);
+            }
+            Due.is("as many as late", b.count(5), late);
+            b.run(1);
+            Due.is("and the next", b.map(9, 3), 1);
+            Due.is("what it tells", b.map(9, 1), 101);
+            Due.is("of its ice", b.map(9, 2), 201);
+            Due.is("of its kind", b.map(9, 0), 2);
+        }
+    }
+
+    /** DUST from a SHEET with 0 to 80 places, 0 to 999 as it is, all else 0. */
+    private static void layOfEdges() {
+        int[] told = {-32768, -1, 0, 1, 998, 999, 1000, 32767, 32768, 65535, 65536, 66535, 66536};
+        int[] due = {0, 0, 0, 1, 998, 999, 0, 0, 0, 0, 0, 999, 0};
+        DarkBase b = new DarkBase();
+        b.sheet(1, told.length);
+        for (int i = 0; i < told.length; i++) {
+            b.mark(1, i, told[i]);
+        }
+        b.put(5, 1, 44);
+        b.cell(6, 1);
+        Due.is("all places", b.lay(1), told.length);
+        for (int i = 0; i < told.length; i++) {
+            Due.is("laid " + told[i], b.told(i, 1), due[i]);
+        }
+        Due.is("none behind them", b.told(told.length, 1), 20);
+        Due.is("ice stays", b.told(5, 2), 44);
+        Due.is("a rock has dust, too", b.told(6, 0), 1);
+        int[] places = {0, 1, 3, 4, 5, 80};
+        for (int n : places) {
+            b = new DarkBase();
+            b.ground(2, 2);
+            b.sheet(0, n);
+            Due.is("of four cells and " + n + " places", b.lay(0), Math.min(4, n));
+            Due.is("kilos", b.kilos(0), 20 * Math.max(0, Math.min(3, 4 - n)));
+        }
     }
 
     private static void lay() {

@@ -6,6 +6,10 @@ public final class LandTest {
         dust();
         parts();
         kilos();
+        carriedByAll();
+        wearFromEach();
+        halves();
+        partsAtTheEdge();
         Due.end();
     }
 
@@ -88,6 +92,76 @@ public final class LandTest {
         Due.is("9999", b.base(8), 9999);
         b.land(5, 99);
         Due.is("9999 at most", b.base(8), 9999);
+    }
+
+    /** DUST that all MACHINES carry, and no ICE. */
+    private static void carriedByAll() {
+        DarkBase b = new DarkBase();
+        b.rule(4, 0);
+        b.cell(14, 2);
+        for (int i = 0; i < 4; i++) {
+            b.machine(i % 2 == 0 ? 1 : 2, 12 + i);
+            b.put(12 + i, 0, 1 + i);
+            b.put(12 + i, 1, 9);
+            Due.order(b, i, i, "scoop");
+        }
+        b.run(1);
+        Due.is("1, 2 and 4", b.kilos(1), 7);
+        Due.is("five of ice", b.has(2, 4), 5);
+        Due.is("on cells", b.kilos(0), 19 * 20 + 3);
+        Due.is("all", b.kilos(5), 19 * 20 + 10);
+    }
+
+    /** 15 and 10 at one and two steps, 100 at most, also of those that are broken; none at three. */
+    private static void wearFromEach() {
+        int[] before = {0, 84, 85, 86, 89, 90, 91, 99, 100};
+        for (int away = 1; away <= 4; away++) {
+            for (int wear : before) {
+                DarkBase b = new DarkBase();
+                b.machine(0, 12);
+                b.tune(0, 1, wear);
+                int gets = away < 3 ? 20 - 5 * away : 0;
+                int due = Math.min(100, wear + gets);
+                Due.is("got at " + away + " from " + wear, b.land(12 + away, 0), due - wear);
+                Due.is("wear", b.has(0, 3), due);
+                Due.is("broken", b.has(0, 7), due == 100 ? 1 : 0);
+                Due.is("charge stays", b.has(0, 2), 50);
+            }
+        }
+    }
+
+    private static void halves() {
+        int[] before = {0, 1, 2, 3, 998, 999};
+        for (int dust : before) {
+            DarkBase b = new DarkBase();
+            b.put(14, 0, dust);
+            b.put(8, 0, 0);
+            b.put(13, 0, 0);
+            b.put(15, 0, 0);
+            b.put(20, 0, 0);
+            b.land(14, 0);
+            Due.is("half of " + dust + " stays", b.told(14, 1), dust - dust / 2);
+            Due.is("half is lost", b.kilos(4), dust / 2);
+            b.land(14, 0);
+            int rest = dust - dust / 2;
+            Due.is("and again", b.kilos(4), dust / 2 + rest / 2);
+            Due.is("all together", b.kilos(5), 18 * 20 + dust);
+        }
+        DarkBase b = new DarkBase();
+        b.land(23, 0);
+        Due.is("in a corner three", b.kilos(4), 30);
+        b.land(5, 0);
+        Due.is("in another three more", b.kilos(4), 60);
+    }
+
+    private static void partsAtTheEdge() {
+        int[][] had = {{9999, 0}, {9999, 99}, {9998, 1}, {9998, 2}, {9900, 99}, {9901, 99}, {0, 0}};
+        for (int[] h : had) {
+            DarkBase b = new DarkBase();
+            b.store(2, h[0]);
+            Due.is("no wear", b.land(5, h[1]), 0);
+            Due.is("9999 at most", b.base(8), Math.min(9999, h[0] + h[1]));
+        }
     }
 
     private static void kilos() {

@@ -2,6 +2,7 @@
 public final class MachineTest {
     public static void main(String[] args) {
         machine();
+        noTwoOnOne();
         is();
         tune();
         has();
@@ -24,6 +25,23 @@ public final class MachineTest {
         Due.is("full", b.machine(0, 0), DarkBase.FULL);
         Due.is("bad comes first", b.machine(4, 12), DarkBase.BAD);
         Due.is("five", b.count(1), 5);
+    }
+
+    private static void noTwoOnOne() {
+        DarkBase b = new DarkBase();
+        Due.is("on the base", b.machine(0, 0), 0);
+        Due.is("not two", b.machine(1, 0), DarkBase.NO);
+        Due.is("on the last cell", b.machine(3, 23), 1);
+        Due.is("not two", b.machine(3, 23), DarkBase.NO);
+        b.cell(4, 2);
+        b.cell(5, 3);
+        Due.is("on a pit", b.machine(1, 4), 2);
+        Due.is("on a road", b.machine(1, 5), 3);
+        b.cell(6, 1);
+        Due.is("not on a rock", b.machine(1, 6), DarkBase.NO);
+        b.cell(6, 0);
+        Due.is("when it is none", b.machine(1, 6), 4);
+        Due.is("five at most", b.machine(1, 7), DarkBase.FULL);
     }
 
     private static void is() {

@@ -7,6 +7,8 @@ public final class NightTest {
         againstAllCuts();
         tell();
         check();
+        checkOfEachLength();
+        justEnough();
         Due.end();
     }
 
@@ -104,6 +106,51 @@ public final class NightTest {
         b.check(1, 1);
         Due.is("none wait", b.count(7), 0);
         Due.is("from the first", b.tell(0), 1);
+    }
+
+    /** n TICKS, 1 to 24, and at each all that are not off are paid. */
+    private static void justEnough() {
+        for (int n = 1; n <= 24; n++) {
+            DarkBase b = new DarkBase();
+            b.load(7, 9);
+            b.load(3, 2);
+            b.rule(1, 0);
+            int[] banks = {10 * n, 10 * n - 1, 7 * n, 7 * n - 1, 3 * n, 3 * n - 1, 0};
+            int[] cuts = {0, 2, 2, 1, 1, 3, 3};
+            int[] harms = {0, 2, 2, 9, 9, 11, 11};
+            for (int i = 0; i < banks.length; i++) {
+                b.rule(2, banks[i]);
+                Due.is("cut of " + n + " from " + banks[i], b.cut(n), cuts[i]);
+                Due.is("its harm", b.night(n), harms[i]);
+            }
+            b.rule(3, 99);
+            Due.is("no panels in a night", b.cut(n), 3);
+            Due.is("nothing is shed by it", b.base(4) + b.base(5), 0);
+        }
+    }
+
+    private static void checkOfEachLength() {
+        DarkBase b = new DarkBase();
+        b.load(4, 9);
+        for (int n = 1; n <= 24; n++) {
+            for (int t = 1; t <= n; t++) {
+                b.tell(100 - 4 * t);
+            }
+            Due.is("night of " + n, b.check(1, n), 0);
+        }
+        b = new DarkBase();
+        b.load(5, 9);
+        for (int n = 1; n <= 24; n++) {
+            for (int t = 1; t < n; t++) {
+                b.tell(5 * n > 100 ? 100 : 100 - 5 * t);
+            }
+            Due.is("one is missing of " + n, b.check(1, n), n);
+        }
+        for (int n = 0; n < 100; n++) {
+            b.tell(100);
+        }
+        Due.is("far too many", b.check(1, 24), 25);
+        Due.is("of no loads", checked(new DarkBase(), 3, 100, 100, 100), 0);
     }
 
     private static int checked(DarkBase b, int n, int... told) {

@@ -5,6 +5,9 @@ public final class OrderTest {
         order();
         run();
         whenTheyCome();
+        lateFromNoneToNine();
+        theyKeepWhenTheyAreDue();
+        emptyByThen();
         asItIsThen();
         severalAtOnce();
         Due.end();
@@ -30,6 +33,17 @@ public final class OrderTest {
         b.run(1);
         Due.is("two came", b.count(4), 10);
         Due.is("room again", b.send(0, 0), 2);
+        b = new DarkBase();
+        b.machine(0, 1);
+        Due.program(b, 0, "wait");
+        for (int i = 0; i < 12; i++) {
+            Due.is("all at 3", b.send(0, 0), 3);
+        }
+        b.run(3);
+        Due.is("twelve still", b.send(0, 0), DarkBase.FULL);
+        b.run(1);
+        Due.is("all came", b.count(4), 0);
+        Due.is("room for the first", b.send(0, 0), 7);
     }
 
     private static void order() {
@@ -107,6 +121,73 @@ public final class OrderTest {
         Due.is("it waits", b.has(0, 6), 1);
         b.run(1);
         Due.is("it is over", b.has(0, 6), DarkBase.NONE);
+    }
+
+    private static void lateFromNoneToNine() {
+        for (int late = 0; late <= 9; late++) {
+            DarkBase b = new DarkBase();
+            b.machine(0, 1);
+            Due.program(b, 3, "while 1{wait}");
+            b.run(2);
+            b.rule(4, late);
+            Due.is("sent", b.send(0, 3), 2 + late);
+            Due.is("the tick at which it comes", b.order(0, 2), 2 + late);
+            if (late > 0) {
+                b.run(late);
+            }
+            Due.is("still on its way", b.count(4), 1);
+            Due.is("not yet", b.has(0, 6), DarkBase.NONE);
+            b.run(1);
+            Due.is("it came", b.has(0, 6), 3);
+            Due.is("none on its way", b.order(0, 0), DarkBase.NONE);
+        }
+    }
+
+    /** ORDERS and REPORTS on their way keep when they are due, whatever LATE becomes. */
+    private static void theyKeepWhenTheyAreDue() {
+        DarkBase b = new DarkBase();
+        b.machine(0, 1);
+        b.machine(0, 9);
+        Due.program(b, 0, "while 1{wait}");
+        b.rule(4, 4);
+        b.send(0, 0);
+        b.run(1);
+        b.rule(4, 0);
+        b.send(1, 0);
+        Due.is("in the order in which they were sent", b.order(0, 2), 4);
+        Due.is("not in that in which they come", b.order(1, 2), 1);
+        b.run(1);
+        Due.is("at once", b.has(1, 6), 0);
+        Due.is("a report at once", b.map(1, 3), 1);
+        b.rule(4, 9);
+        b.run(2);
+        Due.is("4 is not yet", b.has(0, 6), DarkBase.NONE);
+        Due.is("an older one has not come yet", b.map(1, 3), 1);
+        b.run(1);
+        Due.is("4 is now", b.has(0, 6), 0);
+        Due.is("the older one came", b.map(1, 3), 0);
+    }
+
+    /** An ORDER of a PROGRAM that is empty by then leaves its MACHINE none, whatever it ran. */
+    private static void emptyByThen() {
+        for (int empty = 0; empty < 6; empty++) {
+            DarkBase b = new DarkBase();
+            b.rule(4, 0);
+            b.machine(0, 1);
+            for (int p = 0; p < 6; p++) {
+                Due.program(b, p, "while 1{wait}");
+            }
+            b.send(0, (empty + 1) % 6);
+            b.run(1);
+            Due.is("it runs", b.has(0, 6), (empty + 1) % 6);
+            b.send(0, empty);
+            Due.is("a fault", Due.program(b, empty, "while 1{wait"), -112);
+            Due.is("it runs on", b.has(0, 6), (empty + 1) % 6);
+            b.run(1);
+            Due.is("none", b.has(0, 6), DarkBase.NONE);
+            Due.is("the order is gone", b.count(4), 0);
+            Due.is("five are told", b.count(3), 5);
+        }
     }
 
     private static void asItIsThen() {

@@ -2,16 +2,23 @@ import java.util.Arrays;
 import java.util.List;
 import java.util.Random;
 
-/** Runs of calls, made by fixed seeds, on a DarkBase and on a Plain: all promises, each held against the other. */
+/**
+ * Runs of calls, made by fixed seeds, on a DarkBase and on a Plain: all promises, each held against the other. A run
+ * is of any length, and at its end what is left of the 512 calls that an object is used for looks at all there is.
+ */
 public final class PlainTest {
-    private static final int RUNS = 1500;
-    private static final int CALLS = 300;
+    private static final int RUNS = 8000;
+    private static final int MOST_CALLS = 512;
+    /** A call of this test's own may be some: a night that is told and checked, a PROGRAM that is fed. */
+    private static final int MOST_AT_ONCE = 60;
+    private static final int LOOKS = 140;
 
     private final Random random;
     private final DarkBase base = new DarkBase();
     private final Plain plain = new Plain();
     private final StringBuilder told = new StringBuilder();
     private boolean isSame = true;
+    private int calls = 0;
 
     private PlainTest(long seed) {
         random = new Random(seed);
@@ -28,12 +35,14 @@ public final class PlainTest {
 
     private boolean runs() {
         setUp();
-        for (int n = 0; n < CALLS && isSame; n++) {
+        int enough = in(calls, MOST_CALLS - LOOKS - MOST_AT_ONCE);
+        while (calls < enough && isSame) {
             call();
-            if (n % 10 == 0) {
-                compareAll();
+            if (random.nextInt(4) == 0) {
+                look();
             }
         }
+        lookAtAll();
         if (!isSame) {
             System.out.println(told);
         }
@@ -41,6 +50,7 @@ public final class PlainTest {
     }
 
     private void same(String call, int got, int due) {
+        calls++;
         told.append(call).append(" = ").append(got).append('\n');
         if (got != due) {
             told.append("   due is ").append(due).append('\n');
@@ -323,22 +333,37 @@ public final class PlainTest {
         }
     }
 
-    private void compareAll() {
+    /** At one thing. */
+    private void look() {
+        int cell = in(0, plain.count(0) - 1), i = in(0, 4), what = in(0, 7);
+        switch (random.nextInt(4)) {
+            case 0 -> same("told " + cell + " " + what % 4, base.told(cell, what % 4), plain.told(cell, what % 4));
+            case 1 -> same("map " + cell + " " + what % 4, base.map(cell, what % 4), plain.map(cell, what % 4));
+            case 2 -> same("base " + what, base.base(what), plain.base(what));
+            default -> same("has " + i + " " + what, base.has(i, what), plain.has(i, what));
+        }
+    }
+
+    private void lookAtAll() {
         for (int what = -1; what < 10; what++) {
             same("base " + what, base.base(what), plain.base(what));
             same("count " + what, base.count(what), plain.count(what));
             same("kilos " + what, base.kilos(what), plain.kilos(what));
         }
-        for (int cell = 0; cell < plain.count(0); cell++) {
-            for (int what = 0; what < 4; what++) {
-                same("told " + cell + " " + what, base.told(cell, what), plain.told(cell, what));
-                same("map " + cell + " " + what, base.map(cell, what), plain.map(cell, what));
-            }
-        }
         for (int i = 0; i < 5; i++) {
             for (int what = 0; what < 8; what++) {
                 same("has " + i + " " + what, base.has(i, what), plain.has(i, what));
+            }
+            for (int what = 0; what < 3; what++) {
                 same("order " + i + " " + what, base.order(i, what), plain.order(i, what));
+            }
+        }
+        int from = in(0, plain.count(0) - 1);
+        for (int n = 0; n < plain.count(0) && calls + 8 <= MOST_CALLS; n++) {
+            int cell = (from + n) % plain.count(0);
+            for (int what = 0; what < 4; what++) {
+                same("told " + cell + " " + what, base.told(cell, what), plain.told(cell, what));
+                same("map " + cell + " " + what, base.map(cell, what), plain.map(cell, what));
             }
         }
     }

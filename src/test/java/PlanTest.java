@@ -12,6 +12,11 @@ public final class PlanTest {
         tries();
         mostInTheBank();
         check();
+        oneTick();
+        nothingIsLeft();
+        worksAnew();
+        checkOfSeveral();
+        bankIsFull();
         Due.end();
     }
 
@@ -177,6 +182,91 @@ public final class PlanTest {
         for (int i = 0; i < due.length; i++) {
             Due.is("planned " + i, b.planned(12, 20000, i), due[i]);
         }
+    }
+
+    private static void oneTick() {
+        DarkBase b = new DarkBase();
+        b.work(1, 5, 20, 0);
+        b.work(2, 0, 20, 0);
+        Due.is("only work 0 can be", b.plan(1, 1), 110);
+        Due.is("and is left out", b.planned(1, 1, 0), DarkBase.NONE);
+        b.clear();
+        b.work(1, 0, 0, 0);
+        Due.is("none comes first", b.planned(1, 1, 0), DarkBase.NONE);
+        b.rule(2, 9999);
+        Due.is("a full bank", b.plan(1, 1), 9999);
+    }
+
+    /** THE PLAN may leave 0 in THE BANK, and is one all the same. */
+    private static void nothingIsLeft() {
+        DarkBase b = new DarkBase();
+        b.rule(2, 10);
+        b.rule(3, 0);
+        b.load(10, 1);
+        b.work(1, 0, 10, 0);
+        Due.is("0 at the end", b.plan(2, 1), 0);
+        Due.is("by work 0", b.planned(2, 1, 0), 0);
+        Due.is("alone", b.planned(2, 1, 1), DarkBase.NONE);
+        Due.is("its rows", checked(b, 2, 0, 0, -1, 0), 0);
+        Due.is("no others", checked(b, 2, 0, 0, -1, 1), 4);
+        b.rule(2, 9);
+        Due.is("one less is no plan", b.plan(2, 1), DarkBase.NO);
+        Due.is("none planned", b.planned(2, 1, 0), DarkBase.NO);
+        Due.is("no rows", checked(b, 2, 0, 0), DarkBase.NO);
+    }
+
+    /** WORKS behind clear are as they are told, with nothing of those that were. */
+    private static void worksAnew() {
+        DarkBase b = new DarkBase();
+        for (int i = 0; i < 6; i++) {
+            b.work(9, 50, 20, i == 0 ? 0 : 1);
+        }
+        Due.is("six", b.clear(), 6);
+        b.work(2, 1, 0, 0);
+        b.work(1, 0, 20, 0);
+        b.work(1, 3, 9, 2);
+        Due.is("hours, power, gain, ahead of each", b.plan(5, 9), 110 + (30 - 3) + 3 * 39);
+        int[] due = {1, 2, DarkBase.NONE};
+        for (int i = 0; i < due.length; i++) {
+            Due.is("planned " + i, b.planned(5, 9, i), due[i]);
+        }
+    }
+
+    private static void checkOfSeveral() {
+        DarkBase b = new DarkBase();
+        b.work(2, 3, 5, 0);
+        b.work(1, 4, 20, 0);
+        b.work(3, 1, 1, 0);
+        int[] rows = {1, 106, 0, 133, 0, 160, -1, 195, -1, 230, -1, 265, -1, 300};
+        Due.is("two, and none", checked(b, 7, rows), 0);
+        for (int wrong = 0; wrong < rows.length; wrong++) {
+            int[] off = rows.clone();
+            off[wrong]++;
+            Due.is("all ahead of " + wrong, checked(b, 7, off), 1 + wrong);
+        }
+        for (int many = 0; many < rows.length; many++) {
+            Due.is("missing behind " + many, checked(b, 7, java.util.Arrays.copyOf(rows, many)), 1 + many);
+        }
+        Due.is("one too many", checked(b, 7, java.util.Arrays.copyOf(rows, 15)), 15);
+        Due.is("not those of 6", checked(b, 6, rows), 13);
+        for (int n = 0; n < 100; n++) {
+            b.tell(n < rows.length ? rows[n] : 0);
+        }
+        Due.is("far too many", b.check(0, 7), 15);
+    }
+
+    /** 9999 at most ahead of paying, at each TICK. */
+    private static void bankIsFull() {
+        DarkBase b = new DarkBase();
+        b.rule(2, 9990);
+        b.rule(3, 9);
+        Due.is("just 9999", b.plan(1, 1), 9999);
+        b.rule(3, 99);
+        b.work(1, 50, 20, 0);
+        Due.is("a work is for nothing", b.planned(9, 1, 0), DarkBase.NONE);
+        b.load(50, 1);
+        Due.is("the last tick's load", b.plan(24, 1), 9949);
+        Due.is("the bank stays", b.base(2), 9990);
     }
 
     private static int checked(DarkBase b, int n, int... told) {

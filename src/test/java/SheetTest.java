@@ -51,7 +51,9 @@ public final class SheetTest {
         DarkBase b = new DarkBase();
         b.sheet(0, 5);
         Due.is("from", b.copy(2, 0, 0, 0, 1), DarkBase.BAD);
-        Due.is("to", b.copy(0, 0, -1, 0, 1), DarkBase.BAD);
+        Due.is("from below", b.copy(-1, 0, 0, 0, 1), DarkBase.BAD);
+        Due.is("to", b.copy(0, 0, 2, 0, 1), DarkBase.BAD);
+        Due.is("to below", b.copy(0, 0, -1, 0, 1), DarkBase.BAD);
         Due.is("missing to", b.copy(0, 0, 1, 0, 1), DarkBase.NOTHING);
         Due.is("missing from", b.copy(1, 0, 0, 0, 1), DarkBase.NOTHING);
         Due.is("missing comes first", b.copy(1, 9, 0, 9, -1), DarkBase.NOTHING);
