@@ -108,6 +108,8 @@ public final class GroundTest {
         Due.is("same size", b.ground(6, 4), 24);
         Due.is("none", b.has(0, 0), DarkBase.BAD);
         Due.is("none there", b.told(7, 3), DarkBase.NONE);
+        Due.is("the map knows nothing", b.map(7, 0), DarkBase.NONE);
+        Due.is("nor of 8", b.map(8, 3), DarkBase.NONE);
         Due.is("none carried", b.kilos(1), 0);
         for (int i = 0; i < 2; i++) {
             Due.is("numbered from 0", b.machine(1, 7 + i), i);

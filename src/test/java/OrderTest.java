@@ -10,6 +10,7 @@ public final class OrderTest {
         emptyByThen();
         asItIsThen();
         severalAtOnce();
+        atItsFirstS();
         Due.end();
     }
 
@@ -223,6 +224,25 @@ public final class OrderTest {
         Due.program(b, 2, "fault");
         b.run(1);
         Due.is("an empty one ends what it ran", b.has(0, 6), DarkBase.NONE);
+    }
+
+    /** Also if it is the PROGRAM that the MACHINE runs, and amid its repeats. */
+    private static void atItsFirstS() {
+        DarkBase b = new DarkBase();
+        b.rule(4, 0);
+        b.machine(1, 7);
+        Due.order(b, 0, 0, "wait scoop repeat 2{wait}drop");
+        b.run(1);
+        b.send(0, 0);
+        b.run(1);
+        Due.is("it waits once more", b.has(0, 4), 0);
+        b.run(2);
+        Due.is("then it scoops, and waits", b.has(0, 4), 5);
+        b.send(0, 0);
+        b.run(4);
+        Due.is("wait, scoop, and two waits", b.has(0, 4), 10);
+        b.run(1);
+        Due.is("then it drops", b.has(0, 4), 0);
     }
 
     private static void severalAtOnce() {

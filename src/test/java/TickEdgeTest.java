@@ -279,6 +279,16 @@ public final class TickEdgeTest {
             Due.is("three and one", b.has(0, 2), 46);
             Due.is("two of wear", b.has(0, 3), 2);
         }
+        for (int ice = 0; ice < 2; ice++) {
+            DarkBase b = with(1, 7, 50, 0, "scoop drop");
+            b.cell(7, ice == 1 ? 2 : 0);
+            b.put(7, ice, 20);
+            b.run(1);
+            b.put(7, ice, 999);
+            b.run(1);
+            Due.is("no kilo is lost on a full cell", b.told(7, 1 + ice), 1004);
+            Due.is("what it was", b.put(7, ice, 3), 1004);
+        }
         DarkBase b = with(1, 0, 50, 0, "scoop drop");
         b.put(0, 0, 7);
         b.run(2);
@@ -515,6 +525,15 @@ public final class TickEdgeTest {
         Due.is("t is 9 and less", b.has(0, 4), 5);
         b.run(1);
         Due.is("t is 10", b.has(0, 4), 0);
+        b = with(1, 7, 50, 0, "until 0-1 until 2 until c-51 scoop");
+        b.run(1);
+        Due.is("what is not 0 ends it", b.has(0, 4), 5);
+        b = with(1, 7, 50, 0, "until c-50 scoop");
+        b.run(2);
+        Due.is("0 does not", b.has(0, 4), 0);
+        b = with(1, 7, 50, 0, "if 0-1{if c-51{while 0-1{scoop}}}");
+        b.run(1);
+        Due.is("nor is what is below 0 no", b.has(0, 4), 5);
     }
 
     /** 49 that do not take the TICK leave room for what takes it, 50 do not. */
