@@ -31,26 +31,6 @@ public final class TickEdgeTest {
         Due.end();
     }
 
-    /** Orders come at once, and no light adds to CHARGE: TICK 1 is dark, and all of it for long. */
-    private static DarkBase dark() {
-        DarkBase b = new DarkBase();
-        b.rule(4, 0);
-        b.rule(0, 1);
-        b.rule(1, 24);
-        b.run(1);
-        return b;
-    }
-
-    /** A MACHINE of a KIND on a CELL in the dark, with so much CHARGE and WEAR, that has got a TEXT. */
-    private static DarkBase with(int kind, int cell, int charge, int wear, String text) {
-        DarkBase b = dark();
-        b.machine(kind, cell);
-        b.tune(0, 0, charge);
-        b.tune(0, 1, wear);
-        Due.order(b, 0, 0, text);
-        return b;
-    }
-
     private static void chargeIs(DarkBase b, String what, int due) {
         Due.is(what, b.has(0, 2), due);
     }
@@ -97,11 +77,11 @@ public final class TickEdgeTest {
     }
 
     private static void chargeOfSteps() {
-        DarkBase b = with(0, 7, 2, 0, "go 3 1");
+        DarkBase b = Dark.with(0, 7, 2, 0, "go 3 1");
         b.run(1);
         Due.is("two are enough", b.has(0, 1), 8);
         chargeIs(b, "and are gone", 0);
-        b = with(0, 7, 1, 0, "go 3 1");
+        b = Dark.with(0, 7, 1, 0, "go 3 1");
         b.run(1);
         Due.is("one is not", b.has(0, 1), 7);
         chargeIs(b, "it keeps it", 1);
@@ -110,11 +90,11 @@ public final class TickEdgeTest {
         b.tune(0, 0, 4);
         b.run(2);
         Due.is("it goes when it can", b.has(0, 1), 9);
-        b = with(0, 1, 1, 0, "go 0 0");
+        b = Dark.with(0, 1, 1, 0, "go 0 0");
         b.run(1);
         Due.is("one is enough for the base", b.has(0, 1), 0);
         chargeIs(b, "it is gone", 0);
-        b = with(0, 7, 50, 0, "go 2 1 go 3 1");
+        b = Dark.with(0, 7, 50, 0, "go 2 1 go 3 1");
         b.cell(8, 3);
         b.cell(7, 3);
         b.run(2);
@@ -126,7 +106,7 @@ public final class TickEdgeTest {
     private static void targets() {
         int[][] sizes = {{2, 2}, {3, 5}, {10, 8}};
         for (int[] size : sizes) {
-            DarkBase b = dark();
+            DarkBase b = Dark.base();
             int wide = size[0], high = size[1], last = wide * high - 1;
             b.ground(wide, high);
             b.machine(1, last);
@@ -159,7 +139,7 @@ public final class TickEdgeTest {
     private static void noWay() {
         int[][] rocks = {{15}, {1, 6, 8, 13}, {14, 9, 16, 21}};
         for (int[] around : rocks) {
-            DarkBase b = with(1, 7, 50, 0, "go 3 2 scoop");
+            DarkBase b = Dark.with(1, 7, 50, 0, "go 3 2 scoop");
             for (int rock : around) {
                 b.cell(rock, 1);
             }
@@ -170,7 +150,7 @@ public final class TickEdgeTest {
             b.run(1);
             Due.is("the next one", b.has(0, 4), 5);
         }
-        DarkBase b = with(0, 7, 50, 0, "go 3 1 drop");
+        DarkBase b = Dark.with(0, 7, 50, 0, "go 3 1 drop");
         b.run(1);
         b.cell(9, 1);
         b.run(1);
@@ -181,7 +161,7 @@ public final class TickEdgeTest {
 
     private static void inTheWay() {
         for (int first = 0; first < 2; first++) {
-            DarkBase b = dark();
+            DarkBase b = Dark.base();
             b.machine(0, first == 0 ? 8 : 7);
             b.machine(0, first == 0 ? 7 : 8);
             int goer = 1 - first;
@@ -197,7 +177,7 @@ public final class TickEdgeTest {
     }
 
     private static void byNumber() {
-        DarkBase b = dark();
+        DarkBase b = Dark.base();
         b.machine(0, 8);
         b.machine(0, 7);
         Due.order(b, 0, 0, "go 3 1");
@@ -205,7 +185,7 @@ public final class TickEdgeTest {
         b.run(1);
         Due.is("0 makes way", b.has(0, 1), 9);
         Due.is("for 1 in the same tick", b.has(1, 1), 8);
-        b = dark();
+        b = Dark.base();
         b.machine(0, 7);
         b.machine(0, 8);
         Due.order(b, 0, 0, "go 2 1");
@@ -215,7 +195,7 @@ public final class TickEdgeTest {
         Due.is("1 goes", b.has(1, 1), 9);
         b.run(1);
         Due.is("0 then", b.has(0, 1), 8);
-        b = dark();
+        b = Dark.base();
         b.machine(0, 0);
         b.machine(0, 1);
         b.rule(2, 30);
@@ -225,7 +205,7 @@ public final class TickEdgeTest {
     }
 
     private static void wearOfSteps() {
-        DarkBase b = with(0, 7, 50, 98, "go 5 1");
+        DarkBase b = Dark.with(0, 7, 50, 98, "go 5 1");
         b.run(1);
         Due.is("99 is not broken", b.has(0, 7), 0);
         b.run(1);
@@ -248,7 +228,7 @@ public final class TickEdgeTest {
         int[][] carried = {{4, 8, 10}, {5, 10, 10}, {3, 8, 10}, {5, 6, 10}, {0, 0, 5}, {4, 9, 10}, {5, 9, 10}};
         for (int ice = 0; ice < 2; ice++) {
             for (int i = 0; i < lying.length; i++) {
-                DarkBase b = with(1, 7, 50, 0, "scoop scoop scoop");
+                DarkBase b = Dark.with(1, 7, 50, 0, "scoop scoop scoop");
                 b.cell(7, ice == 1 ? 2 : 0);
                 int costs = 0, had = 0;
                 for (int n = 0; n < 3; n++) {
@@ -270,7 +250,7 @@ public final class TickEdgeTest {
     private static void whereItDrops() {
         int[] kinds = {0, 2, 3};
         for (int kind : kinds) {
-            DarkBase b = with(1, 7, 50, 0, "scoop drop");
+            DarkBase b = Dark.with(1, 7, 50, 0, "scoop drop");
             b.run(1);
             b.cell(7, kind);
             b.run(1);
@@ -280,7 +260,7 @@ public final class TickEdgeTest {
             Due.is("two of wear", b.has(0, 3), 2);
         }
         for (int ice = 0; ice < 2; ice++) {
-            DarkBase b = with(1, 7, 50, 0, "scoop drop");
+            DarkBase b = Dark.with(1, 7, 50, 0, "scoop drop");
             b.cell(7, ice == 1 ? 2 : 0);
             b.put(7, ice, 20);
             b.run(1);
@@ -289,12 +269,12 @@ public final class TickEdgeTest {
             Due.is("no kilo is lost on a full cell", b.told(7, 1 + ice), 1004);
             Due.is("what it was", b.put(7, ice, 3), 1004);
         }
-        DarkBase b = with(1, 0, 50, 0, "scoop drop");
+        DarkBase b = Dark.with(1, 0, 50, 0, "scoop drop");
         b.put(0, 0, 7);
         b.run(2);
         Due.is("the base's own dust", b.told(0, 1), 2);
         Due.is("comes to the store", b.base(6), 5);
-        b = with(1, 7, 4, 0, "scoop drop");
+        b = Dark.with(1, 7, 4, 0, "scoop drop");
         b.run(2);
         Due.is("with the last one", b.told(7, 1), 20);
         chargeIs(b, "none is left", 0);
@@ -304,7 +284,7 @@ public final class TickEdgeTest {
         int[] before = {0, 96, 97, 98, 99};
         int[] due = {3, 99, 100, 100, 100};
         for (int i = 0; i < before.length; i++) {
-            DarkBase b = with(2, 7, 50, before[i], "fuse");
+            DarkBase b = Dark.with(2, 7, 50, before[i], "fuse");
             b.run(1);
             Due.is("wear from " + before[i], b.has(0, 3), due[i]);
             Due.is("it fused", b.told(7, 0), 3);
@@ -312,7 +292,7 @@ public final class TickEdgeTest {
         }
         int[] scooped = {97, 98, 99};
         for (int wear : scooped) {
-            DarkBase b = with(1, 7, 50, wear, "scoop");
+            DarkBase b = Dark.with(1, 7, 50, wear, "scoop");
             b.run(1);
             Due.is("scoop from " + wear, b.has(0, 3), Math.min(100, wear + 2));
             Due.is("it scooped", b.has(0, 4), 5);
@@ -323,7 +303,7 @@ public final class TickEdgeTest {
         int[] dust = {9, 10, 11, 0, 999};
         for (int kilos : dust) {
             for (int charge = 5; charge < 8; charge++) {
-                DarkBase b = with(2, 7, charge, 0, "fuse");
+                DarkBase b = Dark.with(2, 7, charge, 0, "fuse");
                 b.put(7, 0, kilos);
                 b.run(1);
                 boolean can = kilos >= 10 && charge >= 6;
@@ -337,13 +317,13 @@ public final class TickEdgeTest {
         }
         int[] fusers = {0, 0, 1, 0};
         for (int kind = 0; kind < 4; kind++) {
-            DarkBase b = with(kind, 7, 50, 0, "fuse");
+            DarkBase b = Dark.with(kind, 7, 50, 0, "fuse");
             b.run(1);
             Due.is("kind " + kind, b.kilos(3), 10 * fusers[kind]);
         }
         int[] cells = {2, 3};
         for (int kind : cells) {
-            DarkBase b = with(2, 7, 50, 0, "fuse");
+            DarkBase b = Dark.with(2, 7, 50, 0, "fuse");
             b.cell(7, kind);
             b.run(1);
             Due.is("only on kind 0", b.told(7, 0), kind);
@@ -355,7 +335,7 @@ public final class TickEdgeTest {
     private static void edgesOfCharge() {
         int[][] had = {{80, 99}, {81, 99}, {79, 99}, {100, 99}, {50, 20}, {50, 19}, {50, 0}, {99, 1}, {1, 21}};
         for (int[] h : had) {
-            DarkBase b = with(0, 0, h[0], 0, "charge wait");
+            DarkBase b = Dark.with(0, 0, h[0], 0, "charge wait");
             b.rule(2, h[1]);
             b.run(1);
             int given = Math.min(20, Math.min(100 - h[0], h[1]));
@@ -369,7 +349,7 @@ public final class TickEdgeTest {
     private static void onlyAtTheBase() {
         int[] kinds = {0, 2, 3};
         for (int kind : kinds) {
-            DarkBase b = with(0, 1, 50, 0, "charge");
+            DarkBase b = Dark.with(0, 1, 50, 0, "charge");
             b.cell(1, kind);
             b.run(1);
             chargeIs(b, "not on kind " + kind, 50);
@@ -383,7 +363,7 @@ public final class TickEdgeTest {
         for (int i = 0; i < before.length; i++) {
             for (int charge = 3; charge < 6; charge++) {
                 for (int parts = 0; parts < 3; parts++) {
-                    DarkBase b = with(3, 7, charge, 0, "mend");
+                    DarkBase b = Dark.with(3, 7, charge, 0, "mend");
                     b.machine(0, 8);
                     b.tune(1, 1, before[i]);
                     b.store(2, parts);
@@ -398,7 +378,7 @@ public final class TickEdgeTest {
         }
         int[] menders = {0, 0, 0, 1};
         for (int kind = 0; kind < 4; kind++) {
-            DarkBase b = with(kind, 7, 50, 0, "mend");
+            DarkBase b = Dark.with(kind, 7, 50, 0, "mend");
             b.machine(0, 8);
             b.tune(1, 1, 40);
             b.store(2, 1);
@@ -412,7 +392,7 @@ public final class TickEdgeTest {
         int[] beside = {15, 13, 20, 8};
         for (int mostWorn = 0; mostWorn < 4; mostWorn++) {
             for (int alike = 0; alike < 4; alike++) {
-                DarkBase b = with(3, 14, 50, 0, "mend");
+                DarkBase b = Dark.with(3, 14, 50, 0, "mend");
                 b.store(2, 5);
                 for (int i = 3; i >= 0; i--) {
                     b.machine(0, beside[i]);
@@ -428,7 +408,7 @@ public final class TickEdgeTest {
         }
         int[] further = {16, 21, 7, 2};
         for (int cell : further) {
-            DarkBase b = with(3, 14, 50, 0, "mend");
+            DarkBase b = Dark.with(3, 14, 50, 0, "mend");
             b.store(2, 5);
             b.machine(0, cell);
             b.tune(1, 1, 60);
@@ -440,7 +420,7 @@ public final class TickEdgeTest {
 
     private static void mendedInTime() {
         for (int mender = 0; mender < 2; mender++) {
-            DarkBase b = dark();
+            DarkBase b = Dark.base();
             b.machine(mender == 0 ? 3 : 1, mender == 0 ? 7 : 8);
             b.machine(mender == 0 ? 1 : 3, mender == 0 ? 8 : 7);
             b.store(2, 1);
@@ -458,7 +438,7 @@ public final class TickEdgeTest {
 
     private static void waits() {
         for (int kind = 0; kind < 4; kind++) {
-            DarkBase b = with(kind, 0, 50, 7, "wait wait");
+            DarkBase b = Dark.with(kind, 0, 50, 7, "wait wait");
             b.put(0, 0, 50);
             b.store(2, 3);
             b.machine(0, 1);
@@ -481,7 +461,7 @@ public final class TickEdgeTest {
     private static void whatDoesNothing() {
         String[] acts = {"scoop", "drop", "fuse", "charge", "mend", "wait", "until 0", "go 9 9"};
         for (String act : acts) {
-            DarkBase b = with(0, 7, 50, 0, act + " go 2 1");
+            DarkBase b = Dark.with(0, 7, 50, 0, act + " go 2 1");
             b.run(1);
             Due.is(act + " takes the tick", b.has(0, 1), 7);
             chargeIs(b, act + " costs nothing", 50);
@@ -491,7 +471,7 @@ public final class TickEdgeTest {
     }
 
     private static void nothingWithoutCharge() {
-        DarkBase b = with(1, 7, 0, 0, "if 1{wait}drop");
+        DarkBase b = Dark.with(1, 7, 0, 0, "if 1{wait}drop");
         b.run(3);
         Due.is("it keeps its program", b.has(0, 6), 0);
         Due.is("but sends reports", b.map(7, 3), 3);
@@ -504,7 +484,7 @@ public final class TickEdgeTest {
         b.tune(0, 0, 1);
         b.run(1);
         Due.is("it is over", b.has(0, 6), DarkBase.NONE);
-        b = with(1, 7, 50, 100, "wait");
+        b = Dark.with(1, 7, 50, 100, "wait");
         b.run(5);
         Due.is("a broken one does not end it", b.has(0, 6), 0);
         b.tune(0, 1, 99);
@@ -515,7 +495,7 @@ public final class TickEdgeTest {
     }
 
     private static void untilHolds() {
-        DarkBase b = with(1, 7, 50, 0, "until d=15|d=10 scoop until t>9 drop");
+        DarkBase b = Dark.with(1, 7, 50, 0, "until d=15|d=10 scoop until t>9 drop");
         b.run(4);
         Due.is("it holds on", b.has(0, 4), 0);
         b.put(7, 0, 15);
@@ -525,13 +505,13 @@ public final class TickEdgeTest {
         Due.is("t is 9 and less", b.has(0, 4), 5);
         b.run(1);
         Due.is("t is 10", b.has(0, 4), 0);
-        b = with(1, 7, 50, 0, "until 0-1 until 2 until c-51 scoop");
+        b = Dark.with(1, 7, 50, 0, "until 0-1 until 2 until c-51 scoop");
         b.run(1);
         Due.is("what is not 0 ends it", b.has(0, 4), 5);
-        b = with(1, 7, 50, 0, "until c-50 scoop");
+        b = Dark.with(1, 7, 50, 0, "until c-50 scoop");
         b.run(2);
         Due.is("0 does not", b.has(0, 4), 0);
-        b = with(1, 7, 50, 0, "if 0-1{if c-51{while 0-1{scoop}}}");
+        b = Dark.with(1, 7, 50, 0, "if 0-1{if c-51{while 0-1{scoop}}}");
         b.run(1);
         Due.is("nor is what is below 0 no", b.has(0, 4), 5);
     }
@@ -543,24 +523,24 @@ public final class TickEdgeTest {
         for (int i = 0; i < kinds.length; i++) {
             int times = each[i] == 1 ? 24 : 16;
             String most = "repeat " + times + "{" + kinds[i] + "}";
-            DarkBase b = with(1, 7, 50, 0, most + " scoop");
+            DarkBase b = Dark.with(1, 7, 50, 0, most + " scoop");
             b.run(1);
             Due.is("49 of " + kinds[i], b.has(0, 4), 5);
-            b = with(1, 7, 50, 0, most + " until 1 scoop");
+            b = Dark.with(1, 7, 50, 0, most + " until 1 scoop");
             b.run(1);
             Due.is("50 of " + kinds[i], b.has(0, 4), 0);
             b.run(1);
             Due.is("then the next tick", b.has(0, 4), 5);
-            b = with(1, 7, 50, 0, most);
+            b = Dark.with(1, 7, 50, 0, most);
             b.run(1);
             Due.is("49, and over", b.has(0, 6), DarkBase.NONE);
-            b = with(1, 7, 50, 0, most + " until 1");
+            b = Dark.with(1, 7, 50, 0, most + " until 1");
             b.run(1);
             Due.is("50, and not found over", b.has(0, 6), 0);
             b.run(1);
             Due.is("it is found then", b.has(0, 6), DarkBase.NONE);
         }
-        DarkBase b = with(1, 7, 50, 0, "while k=0{if 1{repeat 15{go 1 1 until 1}}scoop}drop");
+        DarkBase b = Dark.with(1, 7, 50, 0, "while k=0{if 1{repeat 15{go 1 1 until 1}}scoop}drop");
         b.run(1);
         Due.is("1, 1, 16 and 30 are 48: a scoop", b.has(0, 4), 5);
         b.run(1);
@@ -568,12 +548,12 @@ public final class TickEdgeTest {
     }
 
     private static void repeatsAnew() {
-        DarkBase b = with(1, 7, 50, 0, "repeat 3{repeat 2{repeat 1{repeat 2{wait}}}}scoop");
+        DarkBase b = Dark.with(1, 7, 50, 0, "repeat 3{repeat 2{repeat 1{repeat 2{wait}}}}scoop");
         b.run(12);
         Due.is("twelve waits", b.has(0, 4), 0);
         b.run(1);
         Due.is("then the scoop", b.has(0, 4), 5);
-        b = with(1, 7, 50, 0, "while d>0{repeat 2{if d=20{wait}else{scoop}}if k=10{drop wait}}drop");
+        b = Dark.with(1, 7, 50, 0, "while d>0{repeat 2{if d=20{wait}else{scoop}}if k=10{drop wait}}drop");
         b.put(7, 0, 10);
         b.run(2);
         Due.is("twice", b.has(0, 4), 10);
@@ -586,7 +566,7 @@ public final class TickEdgeTest {
     }
 
     private static void longTexts() {
-        DarkBase b = with(1, 7, 100, 0, "wait ".repeat(18) + "scoop");
+        DarkBase b = Dark.with(1, 7, 100, 0, "wait ".repeat(18) + "scoop");
         b.run(18);
         Due.is("18 waits", b.has(0, 4), 0);
         b.run(1);
@@ -595,85 +575,79 @@ public final class TickEdgeTest {
         b.run(1);
         Due.is("over", b.has(0, 6), DarkBase.NONE);
         String four = "repeat 1{repeat 1{repeat 1{repeat 1{wait}}}}";
-        b = with(1, 7, 100, 0, four + four + "scoop");
+        b = Dark.with(1, 7, 100, 0, four + four + "scoop");
         b.run(2);
         Due.is("two waits", b.has(0, 4), 0);
         b.run(1);
         Due.is("behind eight blocks", b.has(0, 4), 5);
         String choice = "if k{drop}else{scoop}";
-        b = with(1, 7, 100, 0, choice + choice + choice + choice + "drop");
+        b = Dark.with(1, 7, 100, 0, choice + choice + choice + choice + "drop");
         int[] due = {5, 0, 5, 0, 0};
         for (int kilos : due) {
             b.run(1);
             Due.is("one of two", b.has(0, 4), kilos);
         }
-        b = with(1, 7, 100, 0, "if " + "1+".repeat(41) + "1=42{scoop}");
+        b = Dark.with(1, 7, 100, 0, "if " + "1+".repeat(41) + "1=42{scoop}");
         b.run(1);
         Due.is("42 numbers", b.has(0, 4), 5);
         String e = "7";
         for (int open = 0; open < 8; open++) {
             e = "(1+" + e + ")";
         }
-        b = with(1, 7, 100, 0, "if " + e + "=15{scoop}");
+        b = Dark.with(1, 7, 100, 0, "if " + e + "=15{scoop}");
         b.run(1);
         Due.is("eight within one another", b.has(0, 4), 5);
     }
 
-    private static void holds(DarkBase b, String e, int due) {
-        Due.order(b, 0, 5, "while " + e + "{wait}");
-        b.run(1);
-        Due.is(e, b.has(0, 6) == 5 ? 1 : 0, due);
-    }
-
     /** 4096 * 4096 * 128 is the least int, and one less the most. */
     private static void wraps() {
-        DarkBase b = dark();
+        DarkBase b = Dark.base();
         b.machine(0, 7);
         String least = "4096*4096*128";
-        holds(b, least + "<0", 1);
-        holds(b, least + "-1>0", 1);
-        holds(b, "0-" + least + "=" + least, 1);
-        holds(b, least + "+" + least + "=0", 1);
-        holds(b, least + "-1+1=" + least, 1);
-        holds(b, "(" + least + "-1)*2=0-2", 1);
-        holds(b, "(" + least + "-1)*(" + least + "-1)=1", 1);
-        holds(b, least + "*2", 0);
-        holds(b, "!(" + least + "*2)", 1);
-        holds(b, "4096*4096*256+1=1", 1);
-        holds(b, "9999*9999*9999<0", 1);
-        holds(b, "9999*9999*43=417*9999+3164", 1);
+        Dark.holds(b, least + "<0", 1);
+        Dark.holds(b, least + "-1>0", 1);
+        Dark.holds(b, "0-" + least + "=" + least, 1);
+        Dark.holds(b, least + "+" + least + "=0", 1);
+        Dark.holds(b, least + "-1+1=" + least, 1);
+        Dark.holds(b, "(" + least + "-1)*2=0-2", 1);
+        Dark.holds(b, "(" + least + "-1)*(" + least + "-1)=1", 1);
+        Dark.holds(b, least + "*2", 0);
+        Dark.holds(b, "!(" + least + "*2)", 1);
+        Dark.holds(b, "4096*4096*256+1=1", 1);
+        Dark.holds(b, "9999*9999*9999<0", 1);
+        Dark.holds(b, "9999*9999*43=417*9999+3164", 1);
     }
 
     /** Tests look at both numbers, not at what is left of one less the other. */
     private static void compares() {
-        DarkBase b = dark();
+        DarkBase b = Dark.base();
         b.machine(0, 7);
         String least = "4096*4096*128";
-        holds(b, least + "<1", 1);
-        holds(b, "1<" + least, 0);
-        holds(b, "1>" + least, 1);
-        holds(b, least + ">1", 0);
-        holds(b, least + "<" + least + "-1", 1);
-        holds(b, least + "-1>" + least, 1);
-        holds(b, least + "=0-" + least, 1);
-        holds(b, "0-1<0", 1);
-        holds(b, "0>0-1", 1);
-        holds(b, "(0-1)&1", 1);
-        holds(b, "1&(0-1)", 1);
-        holds(b, "(0-1)|0", 1);
-        holds(b, "0|(0-1)", 1);
-        holds(b, "((0-1)|0)=1", 1);
-        holds(b, "((0-1)&7)=1", 1);
-        holds(b, "(7|9)=1", 1);
-        holds(b, "!(0-1)", 0);
-        holds(b, "!!(0-1)=1", 1);
-        holds(b, "(3<5)=1&(5<3)=0", 1);
-        holds(b, "2<2|2>2", 0);
+        Dark.holds(b, least + "<1", 1);
+        Dark.holds(b, "1<" + least, 0);
+        Dark.holds(b, "1>" + least, 1);
+        Dark.holds(b, least + ">1", 0);
+        Dark.holds(b, least + "<" + least + "-1", 1);
+        Dark.holds(b, least + "-1>" + least, 1);
+        Dark.holds(b, least + "=0-" + least, 1);
+        Dark.holds(b, "0-1<0", 1);
+        Dark.holds(b, "0>0-1", 1);
+        Dark.holds(b, "(0-1)&1", 1);
+        Dark.holds(b, "1&(0-1)", 1);
+        Dark.holds(b, "(0-1)|0", 1);
+        Dark.holds(b, "0|(0-1)", 1);
+        Dark.holds(b, "((0-1)|0)=1", 1);
+        Dark.holds(b, "((0-1)&7)=1", 1);
+        Dark.holds(b, "(7|9)=1", 1);
+        Dark.holds(b, "!(0-1)", 0);
+        Dark.holds(b, "!!(0-1)=1", 1);
+        Dark.holds(b, "(3<5)=1&(5<3)=0", 1);
+        Dark.holds(b, "2<2|2>2", 0);
     }
 
     /** A REPORT tells KIND, DUST and ICE behind all acts of its TICK; with LATE 0 it comes at once. */
     private static void reports() {
-        DarkBase b = with(2, 7, 50, 0, "fuse scoop wait wait");
+        DarkBase b = Dark.with(2, 7, 50, 0, "fuse scoop wait wait");
         b.put(7, 1, 6);
         b.put(7, 0, 17);
         b.run(1);
@@ -686,7 +660,7 @@ public final class TickEdgeTest {
             b.run(1);
         }
         Due.is("none is ever on its way", b.count(5), 0);
-        b = with(0, 7, 50, 98, "go 3 1");
+        b = Dark.with(0, 7, 50, 98, "go 3 1");
         b.run(1);
         Due.is("of where it is now", b.map(8, 3), 1);
         Due.is("not of where it was", b.map(7, 3), DarkBase.NONE);

@@ -21,16 +21,6 @@ public final class TickTest {
         Due.end();
     }
 
-    /** Orders come at once, and no light adds to CHARGE: TICK 1 is dark, and all of it for long. */
-    private static DarkBase dark() {
-        DarkBase b = new DarkBase();
-        b.rule(4, 0);
-        b.rule(0, 1);
-        b.rule(1, 24);
-        b.run(1);
-        return b;
-    }
-
     private static void charging() {
         DarkBase b = new DarkBase();
         b.rule(0, 2);
@@ -48,7 +38,7 @@ public final class TickTest {
     }
 
     private static void going() {
-        DarkBase b = dark();
+        DarkBase b = Dark.base();
         b.machine(0, 7);
         b.cell(8, 3);
         Due.order(b, 0, 0, "go 3 1 wait");
@@ -80,7 +70,7 @@ public final class TickTest {
     }
 
     private static void ways() {
-        DarkBase b = dark();
+        DarkBase b = Dark.base();
         b.machine(0, 0);
         b.tune(0, 0, 100);
         b.cell(1, 1);
@@ -96,7 +86,7 @@ public final class TickTest {
     }
 
     private static void ties() {
-        DarkBase b = dark();
+        DarkBase b = Dark.base();
         b.ground(5, 5);
         b.machine(0, 12);
         b.tune(0, 0, 100);
@@ -128,7 +118,7 @@ public final class TickTest {
     }
 
     private static void stayingAndGivingUp() {
-        DarkBase b = dark();
+        DarkBase b = Dark.base();
         b.machine(0, 7);
         b.machine(0, 8);
         Due.order(b, 0, 0, "go 3 1");
@@ -178,7 +168,7 @@ public final class TickTest {
     }
 
     private static void scooping() {
-        DarkBase b = dark();
+        DarkBase b = Dark.base();
         b.machine(1, 7);
         b.put(7, 1, 50);
         Due.order(b, 0, 0, "scoop scoop scoop");
@@ -234,7 +224,7 @@ public final class TickTest {
 
     /** One kilo is enough to be the other, to be dropped, and to cost what five cost. */
     private static void oneKilo() {
-        DarkBase b = dark();
+        DarkBase b = Dark.base();
         b.machine(1, 7);
         b.put(7, 0, 1);
         b.put(7, 1, 8);
@@ -254,7 +244,7 @@ public final class TickTest {
     }
 
     private static void dropping() {
-        DarkBase b = dark();
+        DarkBase b = Dark.base();
         b.machine(1, 1);
         Due.order(b, 0, 0, "drop scoop drop scoop go 0 0 drop drop");
         b.run(1);
@@ -285,7 +275,7 @@ public final class TickTest {
     }
 
     private static void fusing() {
-        DarkBase b = dark();
+        DarkBase b = Dark.base();
         b.machine(2, 7);
         Due.order(b, 0, 0, "fuse fuse");
         b.run(1);
@@ -334,7 +324,7 @@ public final class TickTest {
     }
 
     private static void chargingAtTheBase() {
-        DarkBase b = dark();
+        DarkBase b = Dark.base();
         b.machine(0, 0);
         b.rule(2, 25);
         b.tune(0, 0, 1);
@@ -357,7 +347,7 @@ public final class TickTest {
     }
 
     private static void mending() {
-        DarkBase b = dark();
+        DarkBase b = Dark.base();
         b.ground(3, 3);
         b.machine(3, 4);
         int[] beside = {5, 3, 7, 1};
@@ -419,7 +409,7 @@ public final class TickTest {
     }
 
     private static void branches() {
-        DarkBase b = dark();
+        DarkBase b = Dark.base();
         b.machine(1, 7);
         Due.order(b, 0, 0, "if k=0{scoop}else{drop}scoop");
         b.run(1);
@@ -455,7 +445,7 @@ public final class TickTest {
     }
 
     private static void repeats() {
-        DarkBase b = dark();
+        DarkBase b = Dark.base();
         b.machine(1, 7);
         b.put(7, 0, 999);
         Due.order(b, 0, 0, "repeat 2{repeat 3{wait}scoop}drop");
@@ -484,7 +474,7 @@ public final class TickTest {
     }
 
     private static void fifty() {
-        DarkBase b = dark();
+        DarkBase b = Dark.base();
         b.machine(1, 7);
         Due.order(b, 0, 0, "repeat 48{if 0{wait}}");
         b.run(1);
@@ -522,37 +512,30 @@ public final class TickTest {
         Due.is("for ever", b.has(0, 6), 0);
     }
 
-    /** Whether an E holds for MACHINE 0 in this TICK: it drops nothing, and the PROGRAM is over or not. */
-    private static void holds(DarkBase b, String e, int due) {
-        Due.order(b, 0, 5, "while " + e + "{wait}");
-        b.run(1);
-        Due.is(e, b.has(0, 6) == 5 ? 1 : 0, due);
-    }
-
     private static void names() {
-        DarkBase b = dark();
+        DarkBase b = Dark.base();
         b.machine(1, 15);
         b.put(15, 1, 77);
         b.tune(0, 0, 61);
         Due.order(b, 0, 0, "scoop");
         b.run(1);
         b.tune(0, 1, 23);
-        holds(b, "c=58", 1);
-        holds(b, "k=5", 1);
-        holds(b, "w=23", 1);
-        holds(b, "s=0", 1);
-        holds(b, "d=15", 1);
-        holds(b, "i=77", 1);
-        holds(b, "b=110", 1);
-        holds(b, "t=9", 1);
-        holds(b, "x=3", 1);
-        holds(b, "y=2", 1);
+        Dark.holds(b, "c=58", 1);
+        Dark.holds(b, "k=5", 1);
+        Dark.holds(b, "w=23", 1);
+        Dark.holds(b, "s=0", 1);
+        Dark.holds(b, "d=15", 1);
+        Dark.holds(b, "i=77", 1);
+        Dark.holds(b, "b=110", 1);
+        Dark.holds(b, "t=9", 1);
+        Dark.holds(b, "x=3", 1);
+        Dark.holds(b, "y=2", 1);
         b.run(13);
         Due.is("tick", b.base(0), 25);
-        holds(b, "s=1&t=0", 1);
-        holds(b, "s=0&t=1", 1);
+        Dark.holds(b, "s=1&t=0", 1);
+        Dark.holds(b, "s=0&t=1", 1);
         b.load(40, 1);
-        holds(b, "b=80", 1);
+        Dark.holds(b, "b=80", 1);
     }
 
     private static void sums() {
@@ -564,19 +547,19 @@ public final class TickTest {
             "((((((((1))))))))", "1=1&2=2", "5>3|x", "(5=5)=1", "1-1|1-1|1", "0009=9", "1|0&0*0=7", "2+3>1*4", "9+9=2*9"};
         String[] no = {"0", "1-1", "!1", "!!0", "1&0", "0|0", "2<1", "1<1", "1>1", "1=2", "(1|1)&0", "!(1|0)", "!2", "1-1+0", "2=1+2"};
         for (String e : yes) {
-            holds(b, e, 1);
+            Dark.holds(b, e, 1);
         }
         for (String e : no) {
-            holds(b, e, 0);
+            Dark.holds(b, e, 0);
         }
-        holds(b, "9999*9999*99<0", 9999 * 9999 * 99 < 0 ? 1 : 0);
-        holds(b, "9999*9999*22<0", 1);
-        holds(b, "0-9999*9999*22>0", 1);
-        holds(b, "4096*4096*256", 0);
+        Dark.holds(b, "9999*9999*99<0", 9999 * 9999 * 99 < 0 ? 1 : 0);
+        Dark.holds(b, "9999*9999*22<0", 1);
+        Dark.holds(b, "0-9999*9999*22>0", 1);
+        Dark.holds(b, "4096*4096*256", 0);
     }
 
     private static void breaking() {
-        DarkBase b = dark();
+        DarkBase b = Dark.base();
         b.machine(1, 7);
         b.machine(0, 8);
         b.tune(0, 1, 99);
